@@ -1,0 +1,51 @@
+/** What the tests share: calls are made, and each answer that is not the one that is due is printed. */
+class Checks {
+    interface Call {
+        Object make();
+    }
+
+    static final Class<?> INDEX = IndexOutOfBoundsException.class;
+    static final Class<?> ARGUMENT = IllegalArgumentException.class;
+    static final Class<?> STATE = IllegalStateException.class;
+    static final Class<?> IMPOSSIBLE = UnsupportedOperationException.class;
+    static final Class<?> NONE = java.util.NoSuchElementException.class;
+    static final Class<?> DIVISION = ArithmeticException.class;
+
+    private static int made = 0;
+    private static int wrong = 0;
+
+    /** What a call answers, or the class of what it throws, told as a text. */
+    static String answer(Call call) {
+        try {
+            return String.valueOf(call.make());
+        } catch (RuntimeException e) {
+            boolean isOwn = e.getStackTrace().length > 0 && e.getStackTrace()[0].getMethodName().startsWith("require");
+            return (isOwn ? "throws " : "the machine throws ") + e.getClass().getName();
+        }
+    }
+
+    static void due(String what, Object want, Call call) {
+        expect(what, String.valueOf(want), answer(call));
+    }
+
+    static void refused(String what, Class<?> kind, Call call) {
+        expect(what, "throws " + kind.getName(), answer(call));
+    }
+
+    static void expect(String what, String want, String got) {
+        made++;
+        if (!want.equals(got)) {
+            wrong++;
+            if (wrong <= 40) {
+                System.out.println(what + ": " + got + ", due is " + want);
+            }
+        }
+    }
+
+    static void close(String name) {
+        System.out.println(name + ": " + made + " checks, " + wrong + " wrong");
+        if (wrong > 0) {
+            System.exit(1);
+        }
+    }
+}
