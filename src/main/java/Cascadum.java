@@ -466,6 +466,11 @@ public final class Cascadum {
         }
     }
 
+    /** Whether a number is in a set that is told as the sum of 2 to the power of each. */
+    private static boolean isIn(int set, int number) {
+        return (set >>> number & 1) == 1;
+    }
+
     private void requireElement(int element) {
         requireIndex(element >= 0 && element < tree.made);
     }
@@ -619,7 +624,7 @@ public final class Cascadum {
         int stepsUpTo(int element, int scope) {
             int at = element;
             for (int steps = 0; steps < MOST_ELEMENTS && at >= 0; steps++) {
-                if ((sets[at] >>> scope & 1) == 1) {
+                if (isIn(sets[at], scope)) {
                     return steps;
                 }
                 at = parents[at];
@@ -679,7 +684,7 @@ public final class Cascadum {
             int above = 0;
             for (int i = live - 1; i > 0; i--) {
                 int element = order[i];
-                above |= ((set | above) >>> element & 1) << parents[element];
+                above |= isIn(set | above, element) ? 1 << parents[element] : 0;
             }
             return above;
         }
@@ -691,7 +696,7 @@ public final class Cascadum {
                 int element = order[i];
                 int from = by == ' ' || by == '>' ? parents[element] : aheads[element];
                 int through = by == ' ' || by == '~' ? set | joined : set;
-                joined |= from < 0 ? 0 : (through >>> from & 1) << element;
+                joined |= from >= 0 && isIn(through, from) ? 1 << element : 0;
             }
             return joined;
         }
@@ -775,7 +780,7 @@ public final class Cascadum {
         }
 
         boolean covers(int element) {
-            return (found >>> element & 1) == 1;
+            return isIn(found, element);
         }
     }
 
@@ -914,8 +919,12 @@ public final class Cascadum {
         }
 
         static boolean canBePart(Value value) {
-            return value == null || value.kind == 'n' || value.kind == 'e' || value.kind == '%'
-                    || value.kind == '+' || value.kind == 'v';
+            return value == null || isReckoned(value.kind);
+        }
+
+        /** Whether a number is reckoned from it, so that it is none of 'i', 'o', 'u', 'r' and 'l'. */
+        static boolean isReckoned(char kind) {
+            return kind == 'n' || kind == 'e' || kind == '%' || kind == '+' || kind == 'v';
         }
     }
 
@@ -942,7 +951,7 @@ public final class Cascadum {
         int counterNumber;
 
         boolean has(int property) {
-            return (there >>> property & 1) == 1;
+            return isIn(there, property);
         }
 
         void put(int property, int number) {
@@ -957,7 +966,7 @@ public final class Cascadum {
         }
 
         void putFirst(int property) {
-            if ((THERE_AT_FIRST >>> property & 1) == 1) {
+            if (isIn(THERE_AT_FIRST, property)) {
                 put(property, AT_FIRST[property]);
             }
         }
@@ -1119,12 +1128,15 @@ public final class Cascadum {
         final Value[] declared = new Value[PROPERTIES];
         /** By properties: the own ones to which the declared value leads in one or more steps. */
         final int[] led = new int[PROPERTIES];
+        /** The properties in the order in which they are settled, without the own ones in rings. */
+        final int[] queue = new int[PROPERTIES];
+        int queued;
+        /** The own properties that are in the queue, or will never be there. */
+        int known;
         Style style;
         Style parent;
         int fontBase;
         int percentBase;
-        /** The own properties that are found, be they there or not. */
-        int settled;
 
         void reckon(Cascade cascade, Style into, Style from) {
             style = into;
@@ -1134,17 +1146,20 @@ public final class Cascadum {
                 declared[i] = allowed(i, cascade.pick(i));
             }
             followLeads();
-            settleFontAndOwn();
-            percentBase = parent.room;
-            for (int i = 0; i < PROPERTIES; i++) {
-                if (i != FONT && (OWN >>> i & 1) == 0) {
-                    settle(i);
+            lineUp();
+            fontBase = parent.numbers[FONT];
+            percentBase = fontBase;
+            for (int i = 0; i < queued; i++) {
+                settle(queue[i]);
+                if (queue[i] == FONT) {
+                    fontBase = style.numbers[FONT];
+                    percentBase = parent.room;
                 }
             }
         }
 
         private static Value allowed(int property, Value value) {
-            boolean isRefused = value != null && value.hasPercent && (WITH_PERCENT >>> property & 1) == 0;
+            boolean isRefused = value != null && value.hasPercent && !isIn(WITH_PERCENT, property);
             return isRefused ? null : value;
         }
 
@@ -1154,72 +1169,74 @@ public final class Cascadum {
             }
             for (int through = FIRST_OWN; through <= LAST_OWN; through++) {
                 for (int i = FIRST_OWN; i <= LAST_OWN; i++) {
-                    led[i] |= (led[i] >>> through & 1) == 1 ? led[through] : 0;
+                    led[i] |= isIn(led[i], through) ? led[through] : 0;
                 }
             }
         }
 
-        /** Own properties that wait for the font are found behind it, so that they are not there for it. */
-        private void settleFontAndOwn() {
+        /** Own properties that wait for the font come behind it, so that they are not there for it. */
+        private void lineUp() {
             int waiting = 0;
-            settled = 0;
+            known = 0;
+            queued = 0;
             for (int i = FIRST_OWN; i <= LAST_OWN; i++) {
                 waiting |= waitsForFont(i) ? 1 << i : 0;
-                settled |= (led[i] >>> i & 1) << i;
+                known |= isIn(led[i], i) ? 1 << i : 0;
             }
-            settleOwn(OWN & ~waiting);
-            fontBase = parent.numbers[FONT];
-            percentBase = fontBase;
-            settle(FONT);
-            fontBase = style.numbers[FONT];
-            settleOwn(waiting);
+            lineUpOwn(OWN & ~waiting);
+            takeIn(FONT);
+            lineUpOwn(waiting);
+            for (int i = 0; i < PROPERTIES; i++) {
+                if (i != FONT && !isIn(OWN, i)) {
+                    takeIn(i);
+                }
+            }
         }
 
         private boolean waitsForFont(int own) {
             for (int i = FIRST_OWN; i <= LAST_OWN; i++) {
-                boolean isLedTo = i == own || (led[own] >>> i & 1) == 1;
-                if (isLedTo && declared[i] != null && declared[i].hasFont) {
+                boolean isAsked = i == own || isIn(led[own], i);
+                if (isAsked && declared[i] != null && declared[i].hasFont) {
                     return true;
                 }
             }
             return false;
         }
 
-        /** Each round settles all that ask only for what is settled; three rounds are enough for three. */
-        private void settleOwn(int set) {
+        /** Each round takes all that ask only for what is known; three rounds are enough for three. */
+        private void lineUpOwn(int set) {
             for (int round = FIRST_OWN; round <= LAST_OWN; round++) {
                 for (int i = FIRST_OWN; i <= LAST_OWN; i++) {
-                    boolean isDue = ((set & ~settled) >>> i & 1) == 1;
-                    if (isDue && (Value.askedBy(declared[i]) & ~settled) == 0) {
-                        settle(i);
-                        settled |= 1 << i;
+                    boolean isDue = isIn(set & ~known, i);
+                    if (isDue && (Value.askedBy(declared[i]) & ~known) == 0) {
+                        takeIn(i);
+                        known |= 1 << i;
                     }
                 }
+            }
+        }
+
+        private void takeIn(int property) {
+            if (queued < PROPERTIES) {
+                queue[queued] = property;
+                queued++;
             }
         }
 
         private void settle(int property) {
             Value value = declared[property];
             char kind = value == null ? 'u' : value.kind;
-            boolean isInherited = (INHERITED >>> property & 1) == 1;
-            if (kind == 'i' || kind == 'u' && isInherited) {
-                style.take(property, parent);
-            } else if (kind == 'o' || kind == 'u') {
-                style.putFirst(property);
-            } else {
-                settleNumber(property, reckoned(value, 0), isInherited);
-            }
-        }
-
-        private void settleNumber(int property, int number, boolean isInherited) {
+            boolean isReckoned = Value.isReckoned(kind);
+            int number = isReckoned ? reckoned(value, 0) : NOTHING;
             if (number != NOTHING) {
                 style.put(property, number);
-            } else if ((OWN >>> property & 1) == 0) {
-                if (isInherited) {
+            } else if (kind == 'i' || kind != 'o' && isIn(INHERITED, property)) {
+                // An own one that asks for nothing is not there; any other one is as if it was 'u'.
+                if (!isReckoned || !isIn(OWN, property)) {
                     style.take(property, parent);
-                } else {
-                    style.putFirst(property);
                 }
+            } else {
+                style.putFirst(property);
             }
         }
 
@@ -1231,25 +1248,19 @@ public final class Cascadum {
                 case 'n':
                     return value.number;
                 case 'e':
-                    return hundredths(value.number, fontBase);
+                    return held((long) value.number * fontBase / 100);
                 case '%':
-                    return hundredths(value.number, percentBase);
+                    return held((long) value.number * percentBase / 100);
                 case 'v':
                     return style.has(value.number)
                             ? style.numbers[value.number] : reckoned(value.right, depth + 1);
                 case '+':
-                    return sum(reckoned(value.left, depth + 1), reckoned(value.right, depth + 1));
+                    int one = reckoned(value.left, depth + 1);
+                    int other = reckoned(value.right, depth + 1);
+                    return one == NOTHING || other == NOTHING ? NOTHING : held((long) one + other);
                 default:
                     return NOTHING;
             }
-        }
-
-        private static int hundredths(int count, int base) {
-            return held((long) count * base / 100);
-        }
-
-        private static int sum(int one, int other) {
-            return one == NOTHING || other == NOTHING ? NOTHING : held((long) one + other);
         }
 
         private static int held(long number) {

@@ -146,6 +146,27 @@ public final class RuleTests extends Checks {
         due("16: it matches all the same", 1, () -> x.candidates(3, 3));
         x.setScope(0, -1);
         due("16: without a scope all are as far", 3, x::refresh);
+        scopeFromFar();
+    }
+
+    /** The deepest tree that can be: the root gives the scope, and the container, for the last one. */
+    private static void scopeFromFar() {
+        Cascadum x = new Cascadum();
+        x.setClasses(0, 32);
+        for (int i = 1; i < 30; i++) {
+            x.addElement(i - 1, 0, 0, 1);
+        }
+        x.selector(x.compound(-1, 1, 0, false));
+        ruleWith(x, 2, -1, 5, false);
+        x.setScope(0, 5);
+        x.setContainer(0, true);
+        x.setCondition(0, 1000);
+        x.refresh();
+        due("16: from the root to the last of 30", 1, () -> x.candidates(29, 3));
+        due("17: likewise", 5, () -> x.computed(29, 3));
+        x.setClasses(0, 0);
+        due("16: nothing gives the scope", 29, x::refresh);
+        due("16: it matches no longer", 0, () -> x.candidates(29, 3));
     }
 
     private static void setCondition() {

@@ -94,9 +94,16 @@ public final class SelectorTests extends Checks {
         due("9: the root counts as the only one", "100000000", () -> matched(x, rooted, 9));
         x.addElement(1, 0, 0, 4);
         due("9: and its children do not", true, () -> x.matches(rooted, 9));
+        int tagged = x.compound(1, 2, 0, false);
+        x.place(tagged, 2, 1, 0);
+        int both = x.selector(tagged);
+        due("9: what else is asked for counts, too", "000000000", () -> matched(x, both, 9));
+        x.addElement(0, 8, 1, 2);
+        due("9: and all of it can be there", true, () -> x.matches(both, 10));
+        x.removeElement(10);
         int ninth = placed(x, 0, 9, 0);
         x.addElement(0, 8, 0, 0);
-        due("9: the ninth one", true, () -> x.matches(ninth, 10));
+        due("9: the ninth one", true, () -> x.matches(ninth, 11));
     }
 
     private static void placeRefuses() {
@@ -112,6 +119,7 @@ public final class SelectorTests extends Checks {
         refused("9: the classes -1", ARGUMENT, () -> x.place(part, 0, 1, -1));
         due("9: it asked for none", false, () -> x.place(part, 5, 9, 63));
         due("9: it asked for one", true, () -> x.place(part, 0, 1, 1));
+        due("9: it asked for this one, too", true, () -> x.place(part, 0, 1, 1));
         int selector = x.selector(part);
         due("9: the last one counts", 20, () -> x.weight(selector));
         refused("9: the range is looked at ahead", ARGUMENT, () -> x.place(part, 6, 1, 0));
@@ -145,12 +153,38 @@ public final class SelectorTests extends Checks {
         x.below(pair, 3);
         int two = x.selector(pair);
         due("10: one element has all", "100000", () -> matched(x, two, 6));
+        belowAndMore();
         int nothing = x.compound(-1, 0, 0, true);
         x.below(nothing, 1);
         x.below(nothing, 0);
         int free = x.selector(nothing);
         due("10: 0 is for not to ask", "001011", () -> matched(x, free, 6));
         due("10: and has no weight", 10, () -> x.weight(free));
+    }
+
+    private static void belowAndMore() {
+        Cascadum x = rowOf(2, 1);
+        x.addElement(1, 0, 1, 4);
+        x.addElement(2, 0, 1, 8);
+        int part = x.compound(0, 2, 0, false);
+        x.below(part, 4);
+        int both = x.selector(part);
+        due("10: what else is asked for counts, too", "01000", () -> matched(x, both, 5));
+        int[] all = new int[4];
+        for (int i = 0; i < 4; i++) {
+            int one = x.compound(-1, 0, 0, false);
+            x.below(one, 1 << i);
+            all[i] = x.selector(one);
+        }
+        due("10: the class 0 below", "10000", () -> matched(x, all[0], 5));
+        due("10: the class 1 below", "10000", () -> matched(x, all[1], 5));
+        due("10: the class 2 below", "11000", () -> matched(x, all[2], 5));
+        due("10: the class 3 below", "10100", () -> matched(x, all[3], 5));
+        x.setClasses(0, 16);
+        int root = x.compound(-1, 0, 0, false);
+        x.below(root, 16);
+        int none = x.selector(root);
+        due("10: the root is not below", "00000", () -> matched(x, none, 5));
     }
 
     private static void selector() {

@@ -13,9 +13,11 @@ public final class StyleTests extends Checks {
         countersInScopes();
         countersByStepsAlone();
         countersEnd();
+        countersAtTheRoot();
         countersRefuse();
         shares();
         isTrue();
+        isTrueBehindEachChange();
         close("StyleTests");
     }
 
@@ -77,6 +79,19 @@ public final class StyleTests extends Checks {
         x.setClasses(3, 1);
         due("22: one that did not match then", 3, x::refresh);
         refreshByDeclarationsWhileApart();
+        refreshByARuleWithoutWeight();
+    }
+
+    private static void refreshByARuleWithoutWeight() {
+        Cascadum x = family();
+        int all = x.addRule(2, -1, x.selector(x.compound(-1, 0, 0, false)));
+        x.refresh();
+        x.declare(all, 2, x.value('%', 100, 0), false);
+        due("22: a rule without weight was given a declaration", 5, x::refresh);
+        x.setWindow(10);
+        due("22: its '%' asks for the width", 5, x::refresh);
+        x.dropDeclaration(all, 0);
+        due("22: it lost it", 5, x::refresh);
     }
 
     private static void refreshByDeclarationsWhileApart() {
@@ -243,6 +258,9 @@ public final class StyleTests extends Checks {
     }
 
     private static void widths() {
+        Cascadum root = new Cascadum();
+        root.refresh();
+        due("35: the root alone", 1000L, root::widths);
         Cascadum x = family();
         due("35: none is styled", 0L, x::widths);
         x.declare(0, 2, x.value('n', 300, 0), false);
@@ -372,6 +390,25 @@ public final class StyleTests extends Checks {
         counted(x, 8, 19, 1);
     }
 
+    private static void countersAtTheRoot() {
+        Cascadum x = counting();
+        x.addElement(0, 0, 0, 4);
+        x.setClasses(0, 4);
+        x.refresh();
+        counted(x, 0, 3, 1);
+        counted(x, 1, 6, 1);
+        x.refresh();
+        counted(x, 0, 3, 1);
+        counted(x, 1, 6, 1);
+        x.setClasses(0, 5);
+        x.refresh();
+        counted(x, 0, 13, 1);
+        x.setClasses(0, 0);
+        x.refresh();
+        due("34: it sees none any more", 0, () -> x.counters(0));
+        counted(x, 1, 3, 1);
+    }
+
     private static void countersRefuse() {
         Cascadum x = counting();
         refused("33: no such element", INDEX, () -> x.counter(1));
@@ -430,5 +467,48 @@ public final class StyleTests extends Checks {
         x.addElement(4, 0, 0, 1);
         due("38: one that is not styled yet", true, x::isTrue);
         due("22: it is styled anew", 1, x::refresh);
+    }
+
+    /** What is kept is not what is found anew, but this is told only if nothing was changed. */
+    private static void isTrueBehindEachChange() {
+        for (int change = 0; change < 14; change++) {
+            Cascadum x = family();
+            int narrow = x.addRule(2, -1, x.selector(x.compound(0, 0, 4, false)));
+            x.setContainer(0, true);
+            x.setCondition(narrow, 500);
+            x.declare(narrow, 3, x.value('%', 1, 0), false);
+            x.declare(0, 4, 1, false);
+            x.declare(0, 8, 1, false);
+            int second = x.compound(-1, 0, 0, false);
+            x.place(second, 0, 2, 0);
+            x.declare(x.addRule(2, -1, x.selector(second)), 9, 1, false);
+            int spare = x.selector(x.compound(-1, 2, 0, false));
+            x.refresh();
+            int number = change;
+            due("38: ahead of the change " + number, true, x::isTrue);
+            change(x, change, narrow, spare);
+            due("38: behind the change " + number, true, x::isTrue);
+            x.refresh();
+            due("38: behind a refresh() " + number, true, x::isTrue);
+        }
+    }
+
+    private static void change(Cascadum x, int number, int rule, int spare) {
+        switch (number) {
+            case 0 -> x.addElement(0, 0, 0, 1);
+            case 1 -> x.removeElement(1);
+            case 2 -> x.moveElement(4, 0);
+            case 3 -> x.setClasses(1, 4);
+            case 4 -> x.setContainer(0, false);
+            case 5 -> x.setWindow(501);
+            case 6 -> x.declare(x.addRule(2, -1, spare), 0, 1, false);
+            case 7 -> x.alsoFor(0, spare);
+            case 8 -> x.setScope(rule, 5);
+            case 9 -> x.setCondition(rule, 5000);
+            case 10 -> x.declare(0, 0, 0, false);
+            case 11 -> x.declareBox(0, 0, 1, true);
+            case 12 -> x.dropDeclaration(0, 0);
+            default -> x.addLayer(0, -1);
+        }
     }
 }

@@ -20,6 +20,8 @@ public final class ValueTests extends Checks {
         fontAndOwn();
         turnedBack();
         turnedBackByLayers();
+        turnedBackAmongAllLayers();
+        turnedBackToTheAgent();
         nothingLeft();
         close("ValueTests");
     }
@@ -456,6 +458,21 @@ public final class ValueTests extends Checks {
         number(x, "25: a sum with it is as 'u'", 2, 0, 3);
         number(x, "25: the other value is not asked for", 2, 4, 40);
         ownRings();
+        ownThatFail();
+    }
+
+    private static void ownThatFail() {
+        Cascadum x = chain();
+        give(x, 0, 6, n(x, 4));
+        give(x, 0, 7, n(x, 5));
+        give(x, 1, 5, n(x, 6));
+        give(x, 2, 5, bare(x, 'o'));
+        give(x, 2, 6, own(x, 5, -1));
+        give(x, 2, 7, sum(x, own(x, 5, -1), n(x, 1)));
+        x.refresh();
+        none(x, "25: one that asks for nothing is not there, though the parent has it", 2, 6);
+        none(x, "25: nor is a sum with nothing", 2, 7);
+        number(x, "25: the parent has it", 1, 7, 5);
     }
 
     private static void ownRings() {
@@ -616,6 +633,41 @@ public final class ValueTests extends Checks {
         x.declare(user, 0, back, true);
         x.refresh();
         number(x, "25: 'l' of the user", 3, 0, 3 - 3);
+    }
+
+    /** All eight layers are there, and what is in no layer of an origin is apart from each of them. */
+    private static void turnedBackAmongAllLayers() {
+        for (int layer = 0; layer < 8; layer++) {
+            Cascadum x = chain();
+            for (int i = 0; i < 8; i++) {
+                x.addLayer(i < 3 ? 0 : i < 6 ? 1 : 2, -1);
+            }
+            int origin = layer < 3 ? 0 : layer < 6 ? 1 : 2;
+            int in = x.addRule(origin, layer, 1);
+            int free = x.addRule(origin, -1, 1);
+            give(x, in, 0, n(x, 33));
+            give(x, free, 0, bare(x, 'l'));
+            give(x, 1, 0, bare(x, 'r'));
+            if (origin < 2) {
+                give(x, 1, 4, bare(x, 'r'));
+                give(x, in, 4, n(x, 44));
+            }
+            x.refresh();
+            number(x, "25: 'l', with 'r' ahead of it or behind, then the layer " + layer, 1, 0, 33);
+            number(x, "25: 'r', then the layer " + layer, 1, 4, origin < 2 ? 44 : 1);
+            x.dropDeclaration(1, 0);
+            x.refresh();
+            number(x, "25: 'l', then the layer " + layer, 1, 0, 33);
+        }
+    }
+
+    private static void turnedBackToTheAgent() {
+        Cascadum x = chain();
+        int agent = x.addRule(0, -1, 1);
+        give(x, agent, 0, n(x, 7));
+        give(x, 1, 0, bare(x, 'l'));
+        x.refresh();
+        number(x, "25: 'l' of the author, then the agent", 1, 0, 7);
     }
 
     private static void nothingLeft() {
