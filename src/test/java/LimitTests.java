@@ -141,6 +141,8 @@ public final class LimitTests extends Checks {
     /** Asks as much as the calls that are left let it, and returns where to go on. */
     private int askFrom(int asked) {
         both("22: refresh()", x::refresh, m::refresh);
+        both("7: the window", () -> x.setWindow(801), () -> m.setWindow(801));
+        both("22: refresh() again", x::refresh, m::refresh);
         both("38: isTrue()", x::isTrue, () -> true);
         both("23: shared()", x::shared, () -> m.shared);
         both("35: widths()", x::widths, m::widths);

@@ -11,6 +11,7 @@ public final class RuleTests extends Checks {
         conditionMatches();
         origins();
         layerOrder();
+        layersWithinLayers();
         nearnessWeightAndOrder();
         winnerAndCandidates();
         asOfTheLastRefresh();
@@ -237,6 +238,20 @@ public final class RuleTests extends Checks {
         x.refresh();
         due("13: the order of layers, the other way round for important ones",
                 "11 10 12 8 13 9 7 0 2 6 1 5 3 4", () -> row(x, 1, 3));
+    }
+
+    /** Eight layers, each within the one ahead of it. */
+    private static void layersWithinLayers() {
+        Cascadum x = small();
+        for (int i = 0; i < 8; i++) {
+            x.addLayer(1, i - 1);
+        }
+        for (int i = 0; i < 8; i++) {
+            ruleWith(x, 1, (i * 3 + 4) % 8, i, false);
+            ruleWith(x, 1, (i * 3 + 4) % 8, i, true);
+        }
+        x.refresh();
+        due("13: what is further in comes first", "3 13 7 1 11 5 15 9 8 14 4 10 0 6 12 2", () -> row(x, 1, 3));
     }
 
     private static void nearnessWeightAndOrder() {

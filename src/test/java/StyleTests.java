@@ -170,6 +170,22 @@ public final class StyleTests extends Checks {
         due("22: it is gone", 0, x::refresh);
         x.moveElement(3, 4);
         due("22: another parent is narrower, and has other numbers", 1, x::refresh);
+        refreshByWidthsWithAllRules();
+    }
+
+    private static void refreshByWidthsWithAllRules() {
+        Cascadum x = family();
+        for (int i = 1; i < 16; i++) {
+            x.addRule(2, -1, 0);
+        }
+        x.declare(15, 3, 0, false);
+        x.refresh();
+        x.setWindow(300);
+        due("22: sixteen rules without '%'", 0, x::refresh);
+        x.declare(15, 3, x.value('%', 10, 0), false);
+        due("22: the last one has it", 4, x::refresh);
+        x.setWindow(400);
+        due("22: and 4 has another number above", 4, x::refresh);
     }
 
     private static void sharing() {

@@ -459,6 +459,22 @@ public final class ValueTests extends Checks {
         number(x, "25: the other value is not asked for", 2, 4, 40);
         ownRings();
         ownThatFail();
+        othersWithinOthers();
+    }
+
+    private static void othersWithinOthers() {
+        Cascadum x = chain();
+        int last = n(x, 77);
+        for (int i = 0; i < 11; i++) {
+            last = own(x, 5 + i % 3, last);
+        }
+        give(x, 1, 0, last);
+        give(x, 1, 5, bare(x, 'o'));
+        give(x, 2, 6, n(x, 66));
+        give(x, 2, 0, last);
+        x.refresh();
+        number(x, "25: twelve parts deep", 1, 0, 77);
+        number(x, "25: the first one that is there", 2, 0, 66);
     }
 
     private static void ownThatFail() {
